@@ -553,9 +553,11 @@ public final class ClosureMachine {
 
         /** A spine is a cell with a head, whose chain has what the head is put to. */
         private static final int SPINE = 0;
+        /** Of a hypothesis: the cell of its argument, which no one marks as REDUCED. */
         private static final int ARGUMENT = 1;
         private static final int TYPE = 2;
         private static final int DEPTH = 3;
+        /** Of a rec that waits: the cell of its last part. */
         private static final int LAST = 1;
 
         /** A binder of a normal form makes three cells for its cost of 1; nothing makes more. */
