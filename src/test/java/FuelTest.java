@@ -241,15 +241,16 @@ public final class FuelTest {
         x.constructor(2, x.all(0, d, d));
         int step = x.fun(1, d, x.fun(2, d, x.put(x.global(2), x.variable(0))));
         int n = x.global(1);
-        for (int i = 0; i < 20; i++) {
+        for (int i = 0; i < 30; i++) {
             n = x.put(x.global(2), n);
         }
         int t = x.put(x.rec(0, 0), d, x.global(1), step, n);
+        int cost = 5 + 30 * 11 + 61;
         for (int i = 0; i < 60; i++) {
             Due.is("a head", x.head(t, 3000), 4 + 1 + 1 + 2 + 2 + 1);
-            Due.is("a normal form", x.normal(t, 3000, 41), x.terms() - 1);
-            Due.is("its cost", x.cost(), 5 + 20 * 11 + 41);
-            Due.is("it may be OUT", x.normal(t, 5 + 20 * 11 + 40, 41), OUT);
+            Due.is("a normal form", x.normal(t, 3000, 61), x.terms() - 1);
+            Due.is("its cost", x.cost(), cost);
+            Due.is("it may be OUT", x.normal(t, cost - 1, 61), OUT);
         }
     }
 
